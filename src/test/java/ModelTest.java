@@ -1,20 +1,37 @@
 import java.util.ArrayList;
 import java.util.Arrays;
 import java.util.List;
+import java.util.Set;
+import java.util.TreeSet;
 
 /** Long runs of calls, each answer held against a slow model that follows the document's words. */
 public final class ModelTest {
-    private static final int RUNS = 600;
-    private static final int CALLS = 300;
+    private static final int RUNS = 2000;
+    // An object is used for 512 calls; the last of these may be a turn and a look, eight calls.
+    private static final int CALLS_BEFORE_LAST = 512 - 8;
     private static int wrong = 0;
     private static long seed = 12345;
+    private static final Set<String> came = new TreeSet<>();
 
     public static void main(String[] args) {
         for (int run = 0; run < RUNS && wrong < 20; run++) {
             new Run(run).go();
         }
+        if (wrong == 0) allKindsOfAnswersCame();
         System.out.println(wrong == 0 ? "all answers are the model's" : wrong + " answers are not the model's");
         if (wrong != 0) System.exit(1);
+    }
+
+    /** The runs say little of turns and rounds unless all kinds of their answers come. */
+    private static void allKindsOfAnswersCame() {
+        String[] kinds = {"turn done", "turn blocked", "turn refused", "rounds none", "rounds long", "rounds too long",
+            "maps", "back", "cycle 1", "cycle 2", "cycle 3", "cycle 4"};
+        for (String kind : kinds) {
+            if (!came.contains(kind)) {
+                wrong++;
+                System.out.println("never came: " + kind);
+            }
+        }
     }
 
     /** A sequence with a fixed start, so that every run of the test makes the same calls. */
@@ -30,6 +47,7 @@ public final class ModelTest {
     private static final class Run {
         private final int number;
         private final int kind = pick(4);
+        private int calls = 0;
         private final CutBodies real = new CutBodies();
         private final Model model = new Model();
 
@@ -39,10 +57,11 @@ public final class ModelTest {
 
         void go() {
             begin();
-            for (int i = 0; i < CALLS; i++) call();
+            for (int i = 0; i < 512 && calls < CALLS_BEFORE_LAST; i++) call();
         }
 
         private void due(String call, long got, long want) {
+            calls++;
             if (got != want) {
                 wrong++;
                 System.out.println("run " + number + ": " + call + " answered " + got + ", the model " + want);
@@ -121,10 +140,8 @@ public final class ModelTest {
                 case 7: due("pieces()", real.pieces(), model.pieces()); break;
                 case 8: due("piece(" + p + ")", real.piece(p), model.piece(p)); break;
                 case 9: due("image(" + a + ", " + p + ")", real.image(a, p), model.image(a, p)); break;
-                case 10: case 11: due("maps(" + a + ")", real.maps(a) ? 1 : 0, model.maps(a) ? 1 : 0); break;
-                case 12: case 13:
-                    due("cycle(" + a + ", " + l + ", " + p + ")", real.cycle(a, l, p), model.cycle(a, l, p));
-                    break;
+                case 10: case 11: maps(a); break;
+                case 12: case 13: cycle(a, l, p); break;
                 case 14: if (pick(5) == 0) rounds(number(1, 13)); break;
                 case 15: if (pick(2) == 0) rounds(between(1, 4)); break;
                 case 16: if (pick(2) == 0) due("keep()", real.keep(), model.keep()); break;
@@ -133,24 +150,43 @@ public final class ModelTest {
             }
         }
 
+        private void maps(int a) {
+            boolean want = model.maps(a);
+            due("maps(" + a + ")", real.maps(a) ? 1 : 0, want ? 1 : 0);
+            if (want && model.planes.size() > 1 && model.points.size() > 1) came.add("maps");
+        }
+
+        private void cycle(int a, int l, int p) {
+            int want = model.cycle(a, l, p);
+            due("cycle(" + a + ", " + l + ", " + p + ")", real.cycle(a, l, p), want);
+            came.add("cycle " + want);
+        }
+
         private void turnAndLook(int a, int l, int times) {
-            due("turn(" + a + ", " + l + ", " + times + ")", real.turn(a, l, times), model.turn(a, l, times));
+            int want = model.turn(a, l, times);
+            due("turn(" + a + ", " + l + ", " + times + ")", real.turn(a, l, times), want);
+            came.add(want < 0 ? "turn refused" : want == 0 ? "turn done" : "turn blocked");
             look();
         }
 
         private void rounds(int n) {
-            due("rounds(" + n + ")", real.rounds(n), model.rounds(n));
+            int want = model.rounds(n);
+            due("rounds(" + n + ")", real.rounds(n), want);
+            came.add(want < 0 ? "rounds too long" : want == 0 ? "rounds none" : want > 200 ? "rounds long" : "rounds");
             look();
         }
 
         private void back(int state) {
-            due("back(" + state + ")", real.back(state) ? 1 : 0, model.back(state) ? 1 : 0);
+            boolean want = model.back(state);
+            due("back(" + state + ")", real.back(state) ? 1 : 0, want ? 1 : 0);
+            if (want) came.add("back");
             look();
         }
 
         private void look() {
             due("home()", real.home(), model.home());
-            for (int p = -1; p <= model.points.size(); p++) {
+            for (int i = 0; i < 3; i++) {
+                int p = wild(model.points.size());
                 due("at(" + p + ")", real.at(p), model.at(p));
                 due("way(" + p + ")", real.way(p), model.way(p));
             }
