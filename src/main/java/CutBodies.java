@@ -470,9 +470,8 @@ public final class CutBodies {
             return rank < taken ? rank : rank + 2;
         }
 
-        private static int zGoesTo(int way) {
-            int first = xGoesTo(way);
-            int second = yGoesTo(way);
+        /** Where z goes when x and y go to these two directions. */
+        private static int across(int first, int second) {
             int coordinate = 3 - first / 2 - second / 2;
             int oddSwap = (first / 2 + 1) % 3 == second / 2 ? 0 : 1;
             return 2 * coordinate + ((first + second + oddSwap) % 2);
@@ -484,7 +483,9 @@ public final class CutBodies {
 
         private static int directionTo(int way, int direction) {
             int coordinate = direction / 2;
-            int to = coordinate == 0 ? xGoesTo(way) : coordinate == 1 ? yGoesTo(way) : zGoesTo(way);
+            int xTo = xGoesTo(way);
+            int yTo = yGoesTo(way);
+            int to = coordinate == 0 ? xTo : coordinate == 1 ? yTo : across(xTo, yTo);
             return to ^ (direction & 1);
         }
 
@@ -505,8 +506,9 @@ public final class CutBodies {
 
         /** One coordinate (0, 1, 2) of where a way takes (x, y, z). */
         static int coordinate(int way, int coordinate, int x, int y, int z) {
-            return part(xGoesTo(way), coordinate, x) + part(yGoesTo(way), coordinate, y)
-                + part(zGoesTo(way), coordinate, z);
+            int xTo = xGoesTo(way);
+            int yTo = yGoesTo(way);
+            return part(xTo, coordinate, x) + part(yTo, coordinate, y) + part(across(xTo, yTo), coordinate, z);
         }
 
         private static int part(int direction, int coordinate, int value) {
@@ -518,17 +520,15 @@ public final class CutBodies {
 
         /**
          * The turn of p about v by its angle: v (v.p) + v x p for a quarter, v (v.p) - p for a half,
-         * half of (v (v.p) - p + v x p) for a third; here for p = (1, 0, 0) and p = (0, 1, 0).
+         * half of v (v.p) - p + v x p for a third, which has the same direction without the halving;
+         * here for p = (1, 0, 0) and p = (0, 1, 0).
          */
         static int stepAbout(int x, int y, int z) {
             int parts = x * x + y * y + z * z;
             int spin = parts == 2 ? 0 : 1;
             int minus = parts == 1 ? 0 : 1;
-            int share = parts == 3 ? 2 : 1;
-            int xTo = directionOf((x * x - minus) / share, (x * y + spin * z) / share,
-                (x * z - spin * y) / share);
-            int yTo = directionOf((x * y - spin * z) / share, (y * y - minus) / share,
-                (y * z + spin * x) / share);
+            int xTo = directionOf(x * x - minus, x * y + spin * z, x * z - spin * y);
+            int yTo = directionOf(x * y - spin * z, y * y - minus, y * z + spin * x);
             return numberOf(xTo, yTo);
         }
 

@@ -18,6 +18,8 @@ public final class ModelTest {
             new Run(run).go();
         }
         if (wrong == 0) allKindsOfAnswersCame();
+        new Run(RUNS).rowsOf1995();
+        new Run(RUNS + 1).rowsOf2002();
         System.out.println(wrong == 0 ? "all answers are the model's" : wrong + " answers are not the model's");
         if (wrong != 0) System.exit(1);
     }
@@ -81,6 +83,34 @@ public final class ModelTest {
                 axis(v[0], v[1], v[2]);
                 if (pick(10) != 0) plane(v[0], v[1], v[2], between(-1, 2));
             }
+        }
+
+        /** The nearest to 2,000 rows that a long search found, below it and beyond it. */
+        void rowsOf1995() {
+            cube(1);
+            orbit(0, 1, 3);
+            orbit(0, 3, 1);
+            axisAndPlane(1, -1, 1, 1, -1);
+            axisAndPlane(-1, 1, 1, 1, 1);
+            axisAndPlane(0, 0, 1, -1, 2);
+            axisAndPlane(-1, 0, 1, -1, 2);
+            rounds(4);
+        }
+
+        void rowsOf2002() {
+            orbit(0, 1, 1);
+            orbit(2, 3, 3);
+            orbit(3, 2, -3);
+            axisAndPlane(1, 0, 0, 1, -1);
+            axisAndPlane(0, 1, 1, 1, -3);
+            axisAndPlane(0, 0, 1, -1, -3);
+            rounds(3);
+        }
+
+        /** An axis and a plane across it, that has its upper side to the axis (1) or away from it (-1). */
+        private void axisAndPlane(int x, int y, int z, int up, int d) {
+            axis(x, y, z);
+            plane(up * x, up * y, up * z, d);
         }
 
         private void orbit(int x, int y, int z) {
