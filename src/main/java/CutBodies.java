@@ -463,10 +463,10 @@ public final class CutBodies {
             return way / 4;
         }
 
-        // Four directions are left for y: all but the two of the coordinate that x goes to.
+        // Four directions are left for y: all but the two of the coordinate that x goes to, way / 8.
         private static int yGoesTo(int way) {
             int rank = way % 4;
-            int taken = xGoesTo(way) / 2 * 2;
+            int taken = way / 8 * 2;
             return rank < taken ? rank : rank + 2;
         }
 

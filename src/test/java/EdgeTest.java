@@ -1331,6 +1331,7 @@ public final class EdgeTest {
         return x;
     }
 
+    /** No body is back behind 1,996 to 2,001 rows (README.md says why), so these two stand on either side of the edge. */
     private static void roundsFar() {
         sentence("-1 when it is not back behind 2,000 rows");
         CutBodies x = bodyOf1995();

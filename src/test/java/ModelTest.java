@@ -85,7 +85,7 @@ public final class ModelTest {
             }
         }
 
-        /** The nearest to 2,000 rows that a long search found, below it and beyond it. */
+        /** The nearest to 2,000 rows that can be, below it and beyond it (README.md says why). */
         void rowsOf1995() {
             cube(1);
             orbit(0, 1, 3);
